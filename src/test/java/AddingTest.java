@@ -8,6 +8,7 @@ public final class AddingTest {
         onlyLoansThatAreOut();
         allTestsMustHold();
         allTwelveLoans();
+        eachSearchLooksAnew();
         askingChangesNothing();
         Check.end();
     }
@@ -125,6 +126,18 @@ public final class AddingTest {
         pool.setRules(3, 0, 0);
         pool.enter(11);
         dueLeast("all but the last", pool, 2047);
+    }
+
+    private static void eachSearchLooksAnew() {
+        Coverpool pool = withDebt(100, 50);
+        addOut(pool, 100, 100);
+        Check.due("leastToAddByAll() first of all", 1, pool.leastToAddByAll());
+        pool.setWorth(0, 0);
+        Check.due("leastToAddByAll() after setWorth", 2, pool.leastToAddByAll());
+        pool.setWorth(1, 0);
+        Check.due("leastToAdd() after setWorth", Coverpool.NONE, pool.leastToAdd());
+        pool.setWorth(0, 20000);
+        Check.due("leastToAdd() after setWorth again", 1, pool.leastToAdd());
     }
 
     private static void askingChangesNothing() {

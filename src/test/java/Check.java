@@ -30,16 +30,17 @@ final class Check {
         }
     }
 
-    /** The exception must be of that very class: the machine's own exceptions are of classes below it. */
+    /** The exception must be of that very class, and thrown in Coverpool, not by the machine or the library. */
     static void dueThrow(String what, Class<? extends RuntimeException> want, Call call) {
         dueText(what, want.getSimpleName(), thrownBy(call));
     }
 
-    private static String thrownBy(Call call) {
+    static String thrownBy(Call call) {
         try {
             call.run();
         } catch (RuntimeException e) {
-            return e.getClass().getSimpleName();
+            String thrower = e.getStackTrace()[0].getClassName();
+            return e.getClass().getSimpleName() + (thrower.equals("Coverpool") ? "" : " by " + thrower);
         }
         return "nothing thrown";
     }

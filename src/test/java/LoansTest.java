@@ -347,8 +347,10 @@ public final class LoansTest {
         }
         pool.setArrears(0, 2);
         Check.due("2 months in arrears", 10, pool.counts(0));
-        pool.setArrears(0, 3);
-        Check.due("3 months in arrears", 0, pool.counts(0));
+        for (int arrears : new int[] {3, 4, 60}) {
+            pool.setArrears(0, arrears);
+            Check.due(arrears + " months in arrears", 0, pool.counts(0));
+        }
     }
 
     private static void dueCountsUpToRank(String what, Coverpool pool, int greatest) {

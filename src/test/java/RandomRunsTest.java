@@ -1,30 +1,32 @@
 import java.util.Random;
 import java.util.function.LongSupplier;
 
-/** Runs of 512 calls with fixed seeds: each answer is the one that the plain writing of the document gives. */
+/** Short and long runs of calls with fixed seeds: each answer is the one that the plain writing of the document gives. */
 public final class RandomRunsTest {
-    private static final int RUNS = 400;
-    private static final int CALLS = 512;
+    private static final int RUNS = 1200;
+    private static final int SHORT_RUN = 120;
+    private static final int LONG_RUN = 512;
 
     private final Random random;
     private final int run;
     private final Coverpool pool = new Coverpool();
     private final PlainPool plain = new PlainPool();
     private final int size;
-    private final int slowness;
+    private final int mostMonthsAtOnce;
     private int month = 0;
 
     private RandomRunsTest(int run) {
         this.run = run;
         random = new Random(run);
         size = new int[] {20, 300, 10000}[run % 3];
-        slowness = 1 + run % 7;
+        mostMonthsAtOnce = run % 5 == 0 ? 24 : 1 + run % 3;
     }
 
     public static void main(String[] args) {
         for (int run = 0; run < RUNS; run++) {
             RandomRunsTest test = new RandomRunsTest(run);
-            for (int call = 0; call < CALLS; call++) {
+            int calls = run % 8 == 0 ? LONG_RUN : SHORT_RUN;
+            for (int call = 0; call < calls; call++) {
                 test.call();
             }
         }
@@ -48,18 +50,31 @@ public final class RandomRunsTest {
     }
 
     private int dueMonth() {
-        return random.nextInt(3) == 0 ? within(month + 1, 600 + month / 60) : month + within(1, 14);
+        return random.nextInt(3) == 0 ? within(month + 1, 600 + month / 60) : month + within(1, 30);
+    }
+
+    /** Mostly a loan of that state, now and then any number. */
+    private int oneThatIs(int state) {
+        int first = within(0, 11);
+        for (int i = 0; i < 12 && random.nextInt(60) > 0; i++) {
+            int loan = (first + i) % 12;
+            if (answer(() -> plain.stateOf(loan), "PlainPool").equals(Integer.toString(state))) {
+                return loan;
+            }
+        }
+        return first;
     }
 
     private void same(String call, LongSupplier want, LongSupplier got) {
-        Check.dueText("run " + run + ": " + call, answer(want), answer(got));
+        Check.dueText("run " + run + ": " + call, answer(want, "PlainPool"), answer(got, "Coverpool"));
     }
 
-    private static String answer(LongSupplier call) {
+    private static String answer(LongSupplier call, String thrower) {
         try {
             return Long.toString(call.getAsLong());
         } catch (RuntimeException e) {
-            return e.getClass().getSimpleName();
+            String found = e.getStackTrace()[0].getClassName();
+            return e.getClass().getSimpleName() + (found.equals(thrower) ? "" : " by " + found);
         }
     }
 
@@ -73,11 +88,11 @@ public final class RandomRunsTest {
             changeLoans(kind);
         } else if (kind < 60) {
             changeBonds(kind);
-        } else if (kind < 60 + slowness) {
-            int months = random.nextInt(4) == 0 ? within(1, 24) : within(1, 3);
+        } else if (kind < 63) {
+            int months = within(1, mostMonthsAtOnce);
             same("pass(" + months + ")", () -> plain.pass(months), () -> pool.pass(months));
             month += months >= 1 && months <= 24 ? months : 0;
-        } else if (kind < 90) {
+        } else if (kind < 96) {
             askTests(kind);
         } else {
             askAll();
@@ -85,36 +100,36 @@ public final class RandomRunsTest {
     }
 
     private void changeLoans(int kind) {
-        int loan = within(0, 11);
-        int other = within(0, 11);
-        if (kind < 8) {
+        int loan = kind < 19 ? oneThatIs(Coverpool.OUT) : oneThatIs(Coverpool.IN);
+        int other = oneThatIs(Coverpool.OUT);
+        if (kind < 11) {
             int amount = within(1, size);
-            int worth = within(0, Math.min(20000, 2 * size));
-            int rank = within(1, 5);
+            int worth = within(size / 2, 2 * size);
+            int rank = random.nextInt(3) == 0 ? within(1, 5) : 1;
             int due = dueMonth();
             String call = "addLoan(" + amount + ", " + worth + ", " + rank + ", " + due + ")";
             same(call, () -> plain.addLoan(amount, worth, rank, due), () -> pool.addLoan(amount, worth, rank, due));
-        } else if (kind < 16) {
+        } else if (kind < 19) {
             same("enter(" + loan + ")", () -> plain.enter(loan), () -> pool.enter(loan));
-        } else if (kind < 23) {
+        } else if (kind < 26) {
             same("leave(" + loan + ")", () -> number(plain.leave(loan)), () -> number(pool.leave(loan)));
-        } else if (kind < 35) {
+        } else if (kind < 39) {
             String call = "swap(" + loan + ", " + other + ")";
             same(call, () -> number(plain.swap(loan, other)), () -> number(pool.swap(loan, other)));
-        } else if (kind < 40) {
-            int arrears = random.nextInt(3) == 0 ? within(0, 60) : within(0, 4);
+        } else if (kind < 42) {
+            int arrears = random.nextInt(5) == 0 ? within(0, 60) : within(0, 3);
             String call = "setArrears(" + loan + ", " + arrears + ")";
             same(call, () -> plain.setArrears(loan, arrears), () -> pool.setArrears(loan, arrears));
         } else {
-            int worth = within(0, random.nextInt(9) == 0 ? 20000 : 2 * size);
+            int worth = within(0, random.nextInt(9) == 0 ? 20000 : 4 * Math.min(size, 5000));
             String call = "setWorth(" + loan + ", " + worth + ")";
             same(call, () -> plain.setWorth(loan, worth), () -> pool.setWorth(loan, worth));
         }
     }
 
     private void changeBonds(int kind) {
-        if (kind < 48) {
-            int amount = within(1, random.nextInt(9) == 0 ? 50000 : 3 * size);
+        if (kind < 47) {
+            int amount = within(1, random.nextInt(30) == 0 ? 50000 : 2 * size);
             int due = dueMonth();
             same("addBond(" + amount + ", " + due + ")", () -> plain.addBond(amount, due), () -> pool.addBond(amount, due));
         } else if (kind < 57) {
@@ -141,9 +156,10 @@ public final class RandomRunsTest {
         } else {
             same("lacking(" + test + ")", () -> plain.lacking(test), () -> pool.lacking(test));
         }
-        if (kind % 10 == 0) {
-            same("leastToAdd()", plain::leastToAddByAll, pool::leastToAdd);
-            same("leastToAddByAll()", plain::leastToAddByAll, pool::leastToAddByAll);
+        if (kind % 8 == 0) {
+            long least = plain.leastToAddByAll();
+            same("leastToAdd()", () -> least, pool::leastToAdd);
+            same("leastToAddByAll()", () -> least, pool::leastToAddByAll);
         }
     }
 
