@@ -1,41 +1,48 @@
+import java.util.function.Consumer;
+import java.util.function.Supplier;
+
 /** Counts the answers that are not due, and ends a test with exit code 1 if there was one. */
 final class Check {
-    interface Call {
-        void run();
-    }
+    static final int LOW = Integer.MIN_VALUE, HIGH = Integer.MAX_VALUE;
 
+    private static String place = "";
     private static int wrong = 0;
     private static int checked = 0;
 
     private Check() {
     }
 
+    /** Where the checks from here on stand: it is told with each answer that is not due. */
+    static void at(String newPlace) {
+        place = newPlace + ": ";
+    }
+
+    static int checked() {
+        return checked;
+    }
+
     static void due(String what, long want, long got) {
-        checked++;
-        if (got != want) {
-            wrong++;
-            System.out.println(what + " answered " + got + ", due is " + want);
-        }
+        dueText(what, Long.toString(want), Long.toString(got));
     }
 
     static void due(String what, boolean want, boolean got) {
-        due(what, want ? 1 : 0, got ? 1 : 0);
+        dueText(what, Boolean.toString(want), Boolean.toString(got));
     }
 
     static void dueText(String what, String want, String got) {
         checked++;
         if (!want.equals(got)) {
             wrong++;
-            System.out.println(what + " answered " + got + ", due is " + want);
+            System.out.println(place + what + " answered " + got + ", due is " + want);
         }
     }
 
     /** The exception must be of that very class, and thrown in Coverpool, not by the machine or the library. */
-    static void dueThrow(String what, Class<? extends RuntimeException> want, Call call) {
+    static void dueThrow(String what, Class<? extends RuntimeException> want, Runnable call) {
         dueText(what, want.getSimpleName(), thrownBy(call));
     }
 
-    static String thrownBy(Call call) {
+    static String thrownBy(Runnable call) {
         try {
             call.run();
         } catch (RuntimeException e) {
@@ -45,36 +52,12 @@ final class Check {
         return "nothing thrown";
     }
 
-    /** A call that throws must leave all that can be asked as it was. */
-    static void dueThrowAndNoChange(Coverpool pool, String what, Class<? extends RuntimeException> want, Call call) {
-        String before = allAnswers(pool);
-        dueThrow(what, want, call);
-        dueText(what + " and all answers after it", before, allAnswers(pool));
-    }
-
-    static String allAnswers(Coverpool pool) {
-        StringBuilder text = new StringBuilder();
-        for (int loan = 0; isLoan(pool, loan); loan++) {
-            text.append("loan ").append(pool.stateOf(loan)).append(' ').append(pool.counts(loan)).append("; ");
-        }
-        for (int bond = 0; isBond(pool, bond); bond++) {
-            text.append("bond ").append(pool.bondState(bond)).append(' ').append(pool.dueOf(bond)).append("; ");
-        }
-        text.append("cash ").append(pool.cash()).append(", debt ").append(pool.debt());
-        text.append(", substitutes ").append(pool.substitutes());
-        for (int test = Coverpool.FACE; test <= Coverpool.MONEY; test++) {
-            text.append(", test ").append(pool.holds(test)).append(' ').append(pool.lacking(test));
-        }
-        text.append(", least ").append(pool.leastToAdd()).append(' ').append(pool.leastToAddByAll());
-        return text.toString();
-    }
-
-    private static boolean isLoan(Coverpool pool, int loan) {
-        return thrownBy(() -> pool.stateOf(loan)).equals("nothing thrown");
-    }
-
-    private static boolean isBond(Coverpool pool, int bond) {
-        return thrownBy(() -> pool.bondState(bond)).equals("nothing thrown");
+    /** The call throws, and the object answers all that can be asked later like one that never had the call. */
+    static void dueRefused(String what, Class<? extends RuntimeException> want, Supplier<Coverpool> maker,
+            Consumer<Coverpool> call) {
+        Coverpool pool = maker.get();
+        dueThrow(what, want, () -> call.accept(pool));
+        dueText(what + " and all answers after it", Answers.nowAndLater(maker.get()), Answers.nowAndLater(pool));
     }
 
     static void end() {

@@ -1,3 +1,4 @@
+import java.io.IOException;
 import java.lang.reflect.Constructor;
 import java.lang.reflect.Field;
 import java.lang.reflect.Member;
@@ -7,67 +8,67 @@ import java.util.TreeSet;
 
 /** The public face: every constant, the constructor and every method of the document, and nothing beside them. */
 public final class FaceTest {
-    private static final String[] FACE = {
-        "Coverpool()", "addLoan(int, int, int, int): int", "enter(int): int", "leave(int): boolean",
-        "swap(int, int): boolean", "setArrears(int, int): int", "setWorth(int, int): int", "stateOf(int): int",
-        "counts(int): int", "addBond(int, int): int", "takeCash(int): int", "setRules(int, int, int): void",
-        "bondState(int): int", "dueOf(int): int", "cash(): int", "debt(): int", "substitutes(): int",
-        "pass(int): int", "holds(int): boolean", "lacking(int): long", "leastToAdd(): int", "leastToAddByAll(): int",
-        "NONE: int", "FACE: int", "WORTH: int", "MONEY: int", "OUT: int", "IN: int", "PAID: int", "OPEN: int",
-        "LOST: int"
-    };
-
-    public static void main(String[] args) {
-        constantsAreAsTold();
-        membersAreAsTold();
+    public static void main(String[] args) throws IOException, IllegalAccessException {
+        TreeSet<String> told = toldMembers(Told.document());
+        Check.due("the document tells so many members", 31, told.size());
+        Check.dueText("the members that are not private", told.toString(), foundMembers().toString());
+        Check.due("the class is public and final", Modifier.PUBLIC | Modifier.FINAL, Coverpool.class.getModifiers());
         noPrivateMethodBearsAPublicName();
         Check.end();
     }
 
-    private static void constantsAreAsTold() {
-        Check.due("NONE", -1, Coverpool.NONE);
-        Check.due("FACE", 0, Coverpool.FACE);
-        Check.due("WORTH", 1, Coverpool.WORTH);
-        Check.due("MONEY", 2, Coverpool.MONEY);
-        Check.due("OUT", 0, Coverpool.OUT);
-        Check.due("IN", 1, Coverpool.IN);
-        Check.due("PAID", 2, Coverpool.PAID);
-        Check.due("OPEN", 0, Coverpool.OPEN);
-        Check.due("LOST", 3, Coverpool.LOST);
+    /** As the document has them between "public final class Coverpool {" and "}", without the names of parameters. */
+    private static TreeSet<String> toldMembers(String document) {
+        String start = "public final class Coverpool {";
+        String face = document.substring(document.indexOf(start) + start.length());
+        TreeSet<String> told = new TreeSet<>();
+        for (String line : face.substring(0, face.indexOf("\n}")).split(";")) {
+            String member = line.trim();
+            if (member.startsWith("public static final int ")) {
+                for (String constant : member.substring("public static final int ".length()).split(", ")) {
+                    told.add("public static final int " + constant);
+                }
+            } else {
+                told.add(member.replaceAll("int \\w+([,)])", "int$1"));
+            }
+        }
+        return told;
     }
 
-    private static void membersAreAsTold() {
-        TreeSet<String> told = new TreeSet<>();
-        for (String member : FACE) {
-            told.add(member);
-        }
+    private static TreeSet<String> foundMembers() throws IllegalAccessException {
         TreeSet<String> found = new TreeSet<>();
         for (Constructor<?> constructor : Coverpool.class.getDeclaredConstructors()) {
-            addIfVisible(found, constructor, "Coverpool" + parameters(constructor.getParameterTypes()));
+            addIfVisible(found, constructor, "Coverpool(" + list(constructor.getParameterTypes()) + ")"
+                + throwsClause(constructor.getExceptionTypes()));
         }
         for (Method method : Coverpool.class.getDeclaredMethods()) {
-            String type = method.getReturnType().getSimpleName();
-            addIfVisible(found, method, method.getName() + parameters(method.getParameterTypes()) + ": " + type);
+            addIfVisible(found, method, method.getReturnType().getSimpleName() + " " + method.getName() + "("
+                + list(method.getParameterTypes()) + ")" + throwsClause(method.getExceptionTypes()));
         }
         for (Field field : Coverpool.class.getDeclaredFields()) {
-            addIfVisible(found, field, field.getName() + ": " + field.getType().getSimpleName());
+            if (!Modifier.isPrivate(field.getModifiers())) {
+                addIfVisible(found, field, field.getType().getSimpleName() + " " + field.getName() + " = " + field.get(null));
+            }
         }
-        Check.dueText("the members that are not private", told.toString(), found.toString());
-        Check.due("the class is public and final", Modifier.PUBLIC | Modifier.FINAL, Coverpool.class.getModifiers());
+        return found;
     }
 
     private static void addIfVisible(TreeSet<String> found, Member member, String text) {
         if (!Modifier.isPrivate(member.getModifiers()) && !member.isSynthetic()) {
-            found.add(Modifier.isPublic(member.getModifiers()) ? text : text + " is not public");
+            found.add(Modifier.toString(member.getModifiers()) + " " + text);
         }
     }
 
-    private static String parameters(Class<?>[] types) {
-        StringBuilder text = new StringBuilder("(");
-        for (int i = 0; i < types.length; i++) {
-            text.append(i == 0 ? "" : ", ").append(types[i].getSimpleName());
+    private static String throwsClause(Class<?>[] exceptions) {
+        return exceptions.length == 0 ? "" : " throws " + list(exceptions);
+    }
+
+    private static String list(Class<?>[] types) {
+        StringBuilder text = new StringBuilder();
+        for (Class<?> type : types) {
+            text.append(text.length() == 0 ? "" : ", ").append(type.getSimpleName());
         }
-        return text.append(')').toString();
+        return text.toString();
     }
 
     private static void noPrivateMethodBearsAPublicName() {
