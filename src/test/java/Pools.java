@@ -80,8 +80,8 @@ final class Pools {
     /** Month 0 at first, and nothing more than months that pass. */
     static Coverpool inMonth(int month) {
         Coverpool pool = new Coverpool();
-        for (int now = 0; now < month; ) {
-            now = pool.pass(Math.min(24, month - now));
+        for (int passed = 0; passed < month; passed += 24) {
+            pool.pass(Math.min(24, month - passed));
         }
         return pool;
     }

@@ -308,22 +308,23 @@ final class PromisesOfLoans {
     }
 
     private static void swapKeepsTheTestsThatHold() {
-        Coverpool face = Pools.withPlainDebtAndLoan(100, 50, 106, 50);
-        face.setRules(3, 6, 0);
-        Pools.addAllOut(face, 105, 106);
-        Check.due("FACE alone would fail", false, face.swap(0, 1));
-        Check.due("FACE would just hold", true, face.swap(0, 2));
+        Coverpool face = Pools.withPlainDebtAndLoan(67, 50, 70, 50);
+        face.setRules(3, 3, 0);
+        Pools.addAllOut(face, 69, 70);
+        Check.due("FACE alone would fail, 6900 for 6901", false, face.swap(0, 1));
+        Check.due("FACE would hold", true, face.swap(0, 2));
         Coverpool worth = Pools.withPlainDebtAndLoan(100, 50, 100, 50);
         worth.setRules(3, 0, 6);
-        Pools.addOut(worth, 100, 100);
-        Pools.addOut(worth, 100, 49);
-        Check.due("WORTH alone would fail", false, worth.swap(0, 1));
-        Check.due("WORTH would hold", true, worth.swap(0, 2));
+        Pools.addOut(worth, 100, 51);
+        Pools.addOut(worth, 100, 50);
+        Check.due("WORTH alone would fail, 79 for 80", false, worth.swap(0, 1));
+        Check.due("WORTH would just hold", true, worth.swap(0, 2));
         Coverpool money = Pools.withPlainDebtAndLoan(100, 3, 100, 3);
-        Pools.addOut(money, 200, 4);
+        Pools.addIn(money, 50, 9);
+        Pools.addOut(money, 99, 3);
         Pools.addOut(money, 100, 2);
-        Check.due("MONEY alone would fail", false, money.swap(0, 1));
-        Check.due("MONEY would hold", true, money.swap(0, 2));
+        Check.due("MONEY alone would fail, 99 for 100", false, money.swap(0, 2));
+        Check.due("MONEY would just hold", true, money.swap(0, 3));
         swapNeedsNoTestThatFailsNow();
     }
 
